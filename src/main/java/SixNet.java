@@ -1,5 +1,3 @@
-import java.util.Arrays;
-
 /** Nodes on links that speak the sixth internet protocol; the document's parts 1 to 9 are named in the comments. */
 public final class SixNet {
     public static final int BAD = -1;
@@ -1223,14 +1221,17 @@ public final class SixNet {
         }
         int known = n.mtus.known(going.toHigh(), going.toLow());
         int most = known > 0 ? Math.min(known, f.link.mtu) : f.link.mtu;
-        boolean cut = going.length > most;
-        int size = cut ? Math.max(most - FRAGMENT_BODY, 8) / 8 * 8 : going.length;
-        n.cuts += cut ? 1 : 0;
-        for (int at = cut ? HEADER : 0; at < going.length; at += size) {
-            if (cut) {
-                writePart(at, size, n.cuts);
+        if (going.length <= most) {
+            if (handOver(going)) {
+                ask(f, hop.high, hop.low, 0, false);
             }
-            if (handOver(cut ? draft : going)) {
+            return;
+        }
+        n.cuts++;
+        int size = Math.max(most - FRAGMENT_BODY, 8) / 8 * 8;
+        for (int at = HEADER; at < going.length; at += size) {
+            writePart(at, size, n.cuts);
+            if (handOver(draft)) {
                 ask(f, hop.high, hop.low, 0, false);
             }
         }
@@ -1431,7 +1432,8 @@ public final class SixNet {
         void become(Packet from) {
             length = 0;
             if (from != null) {
-                append(from, 0, from.length);
+                length = from.length < data.length ? from.length : data.length;
+                System.arraycopy(from.data, 0, data, 0, length);
             }
         }
 
@@ -1506,7 +1508,7 @@ public final class SixNet {
             return (int) get(HEADER, 1);
         }
 
-        int mark() {
+        int offsetAndMore() {
             return (int) get(42, 2);
         }
 
@@ -1519,7 +1521,7 @@ public final class SixNet {
                 return false;
             }
             if (next() == NEXT_FRAGMENT) {
-                return mark() >> 3 == 0;
+                return offsetAndMore() >> 3 == 0;
             }
             return next() != NEXT_CONTROL || type() == ECHO || type() == REPLY;
         }
@@ -1552,11 +1554,11 @@ public final class SixNet {
 
         /** Takes one out of the row for good; SPARE is there in its place for later. */
         Packet take(int k, Packet spare) {
-            Packet taken = at(k);
-            if (taken == null) {
+            if (k < 0 || k >= count || count > items.length) {
                 return spare;
             }
-            for (int i = k + 1; i < count && i < items.length; i++) {
+            Packet taken = items[k];
+            for (int i = k + 1; i < count; i++) {
                 items[i - 1] = items[i];
             }
             count--;
@@ -2035,8 +2037,8 @@ public final class SixNet {
         int total;
 
         void start(Packet p, int until) {
-            this.fromHigh = p.fromHigh();
-            this.fromLow = p.fromLow();
+            this.fromHigh = p.get(8, 8);
+            this.fromLow = p.get(16, 8);
             this.number = (int) p.get(44, 4);
             this.until = until;
             this.total = -1;
@@ -2051,7 +2053,7 @@ public final class SixNet {
         }
 
         void put(Packet p) {
-            int offset = p.mark() >> 3 << 3;
+            int offset = p.offsetAndMore() >> 3 << 3;
             int size = p.length - FRAGMENT_BODY;
             if (size < 0 || HEADER + offset + size > whole.data.length) {
                 return;
@@ -2061,7 +2063,7 @@ public final class SixNet {
             for (int i = offset / 8; i < (offset + size + 7) / 8 && i < there.length; i++) {
                 there[i] = true;
             }
-            if ((p.mark() & 1) == 0) {
+            if ((p.offsetAndMore() & 1) == 0) {
                 total = offset + size;
             }
             if (offset == 0) {
