@@ -1554,7 +1554,7 @@ public final class SixNet {
 
         /** Takes one out of the row for good; SPARE is there in its place for later. */
         Packet take(int k, Packet spare) {
-            if (k < 0 || k >= count || count > items.length) {
+            if (k < 0 || k >= count || count > items.length || items[k] == null) {
                 return spare;
             }
             Packet taken = items[k];
