@@ -6,14 +6,17 @@ import java.util.Random;
 
 /**
  * Random runs against a second, plain reading of the document: it makes new lists and arrays wherever it likes and
- * calls itself freely, so that a slip in how SixNet uses its rows again shows. After each call all that can be asked
- * is compared.
+ * calls itself freely, so that a slip in how SixNet uses its rows again shows. After each call the numbers of the world
+ * are compared, and now and then all that can be asked.
  */
 public final class ModelRuns {
     private static final long LOCAL = 0xFE80000000000000L;
     private static final long MANY = 0xFF02000000000000L;
     private static final int RUNS = 400;
     private static final int STEPS = 160;
+    /** So much may be told to one object that there are calls left to ask it. */
+    private static final int LONGEST_STORY = 400;
+    private static final int STEPS_FOR_ALL = 12;
 
     // ---- the plain reading
 
@@ -1174,13 +1177,16 @@ public final class ModelRuns {
         }
     }
 
-    private static void compare(SixNet x, Model m) {
+    private static void compareWorld(Net x, Model m) {
         same("status", x.status(), m.status);
         int[] world = {m.now, m.nodes.size(), m.links.size(), m.faces.size(), m.sent, m.lost, m.allWaiting()};
         for (int i = 0; i < world.length; i++) {
             same("world " + i, x.world(i), world[i]);
         }
         same("frames", x.frames(), m.flight.size());
+    }
+
+    private static void compareAll(Net x, Model m) {
         for (int k = 0; k < m.flight.size(); k++) {
             compareFrame(x, k, m.flight.get(k));
         }
@@ -1192,7 +1198,7 @@ public final class ModelRuns {
         }
     }
 
-    private static void compareFrame(SixNet x, int k, MFrame f) {
+    private static void compareFrame(Net x, int k, MFrame f) {
         int[] facts = {f.link.number, f.face.number, f.sent, f.bytes.length};
         for (int i = 0; i < 4; i++) {
             same("frame " + k + " " + i, x.frame(k, i), facts[i]);
@@ -1203,7 +1209,7 @@ public final class ModelRuns {
         }
     }
 
-    private static void compareFace(SixNet x, Model m, MFace f) {
+    private static void compareFace(Net x, Model m, MFace f) {
         int[] facts = {f.node.number, f.link.number, f.state, f.entries.size(), m.waitingAt(f)};
         for (int i = 0; i < facts.length; i++) {
             same("face " + f.number + " " + i, x.face(f.number, i), facts[i]);
@@ -1218,7 +1224,7 @@ public final class ModelRuns {
         }
     }
 
-    private static void compareNode(SixNet x, Model m, MNode n) {
+    private static void compareNode(Net x, Model m, MNode n) {
         int[] facts = {n.counts[0], n.counts[1], n.counts[2], n.counts[3], n.counts[4], n.counts[5], n.parts.size(),
             n.routers.size(), n.onLink > 0 ? 1 : 0};
         for (int i = 0; i < facts.length; i++) {
@@ -1247,7 +1253,7 @@ public final class ModelRuns {
         }
     }
 
-    private static void compareTalk(SixNet x, int a, int b, MTalk t) {
+    private static void compareTalk(Net x, int a, int b, MTalk t) {
         int[] facts = {t.told.size(), t.answered, t.due, t.pause};
         for (int i = 0; i < 4; i++) {
             same("sent " + a + " " + b + " " + i, x.sent(a, b, i), facts[i]);
@@ -1262,7 +1268,7 @@ public final class ModelRuns {
     // ---- the runs
 
     private final Random random;
-    private final SixNet x = new SixNet();
+    private final Net x = new Net();
     private final Model m = new Model();
     private final boolean crowded;
 
@@ -1401,11 +1407,15 @@ public final class ModelRuns {
     private long[] run(long seed) {
         trail = "seed " + seed;
         build();
-        compare(x, m);
-        for (int i = 0; i < STEPS && wrong == 0; i++) {
+        compareWorld(x, m);
+        for (int i = 0; i < STEPS && x.told() < LONGEST_STORY && wrong == 0; i++) {
             step();
-            compare(x, m);
+            compareWorld(x, m);
+            if (below(STEPS_FOR_ALL) == 0) {
+                compareAll(x, m);
+            }
         }
+        compareAll(x, m);
         long heard = 0;
         for (MTalk[] row : m.talks) {
             for (MTalk t : row) {

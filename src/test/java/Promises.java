@@ -1,125 +1,10 @@
 /** For each promise: ordinary inputs, the edges that the document names, and wrong inputs. */
-public final class Promises {
-    private static final long P = 0x2001000000000000L;
-    private static final long Q = 0x2001000000010000L;
-    private static final long R = 0x2001000000020000L;
-    private static final long LOCAL = 0xFE80000000000000L;
-    private static final long MAC = 0x020000000000L;
-    private static final long EUI = 0xFFFE000000L;
-
-    private static int wrong = 0;
-    private static String part = "";
-
-    private static void due(String what, long got, long want) {
-        if (got != want) {
-            wrong++;
-            System.out.println(part + ": " + what + " answered " + got + ", due is " + want);
-        }
-    }
-
-    private static void due(String what, String got, String want) {
-        if (!got.equals(want)) {
-            wrong++;
-            System.out.println(part + ": " + what + " answered\n  " + got + ", due is\n  " + want);
-        }
-    }
-
-    private static void refused(SixNet x, String what, long got, int why) {
-        due(what, got, SixNet.BAD);
-        due(what + " STATUS", x.status(), why);
-    }
-
-    private static void taken(SixNet x, String what, long got, long want) {
-        due(what, got, want);
-        due(what + " STATUS", x.status(), 0);
-    }
-
-    // ---- worlds
-
-    /** HOST 0, ROUTER 1, HOST 2 on one LINK, as INTERFACES 0, 1, 2 with IDS 17, 1, 34. */
-    private static SixNet lan(int mtu) {
-        SixNet x = new SixNet();
-        x.node(false);
-        x.node(true);
-        x.node(false);
-        x.link(P, mtu);
-        x.attach(0, 0, MAC + 1, 0x11);
-        x.attach(1, 0, MAC + 2, 1);
-        x.attach(2, 0, MAC + 3, 0x22);
-        return x;
-    }
-
-    /** The same at tick 3, with ADDRESSES, nothing in flight. */
-    private static SixNet settledLan(int mtu) {
-        SixNet x = lan(mtu);
-        x.tick(1);
-        x.hurry(9);
-        x.tick(2);
-        return x;
-    }
-
-    /** HOST 0 on LINK 0, ROUTER 1 on both, HOST 2 on LINK 1; at tick 3. */
-    private static SixNet twoLinks(int firstMtu, int secondMtu) {
-        SixNet x = new SixNet();
-        x.node(false);
-        x.node(true);
-        x.node(false);
-        x.link(P, firstMtu);
-        x.link(Q, secondMtu);
-        x.attach(0, 0, MAC + 1, 0x11);
-        x.attach(1, 0, MAC + 2, 1);
-        x.attach(1, 1, MAC + 4, 1);
-        x.attach(2, 1, MAC + 3, 0x22);
-        x.tick(1);
-        x.hurry(20);
-        x.tick(2);
-        return x;
-    }
-
-    private static String hex(SixNet x, int k) {
-        StringBuilder all = new StringBuilder();
-        int length = x.frame(k, 3);
-        for (int i = 0; i < length; i++) {
-            all.append(String.format("%02X", x.bytes(k, i) >>> 56));
-        }
-        return all.toString();
-    }
-
-    /** The bytes of a frame with dots for its CHECKSUM, which must hold. */
-    private static String plain(SixNet x, int k, int sumAt) {
-        String h = hex(x, k);
-        int sum = Integer.parseInt(h.substring(28 + 12, 28 + 14), 16) + (h.length() / 2 - 54);
-        for (int i = 14 + 8; i < h.length() / 2; i++) {
-            int b = Integer.parseInt(h.substring(2 * i, 2 * i + 2), 16);
-            sum += i % 2 == 0 ? b << 8 : b;
-        }
-        while (sum > 0xFFFF) {
-            sum = (sum & 0xFFFF) + (sum >> 16);
-        }
-        due("CHECKSUM of frame " + k, sum, 0xFFFF);
-        return h.substring(0, 2 * sumAt) + "...." + h.substring(2 * sumAt + 4);
-    }
-
-    private static String of(long value, int size) {
-        return String.format("%016X", value).substring(16 - 2 * size);
-    }
-
-    private static String header(long macTo, long macFrom, int rest, int next, int hops) {
-        return of(macTo, 6) + of(macFrom, 6) + "86DD60000000" + of(rest, 2) + of(next, 1) + of(hops, 1);
-    }
-
-    private static String address(long high, long low) {
-        return of(high, 8) + of(low, 8);
-    }
-
-    private static final String ZERO8 = "0000000000000000";
-    private static final String MANY = "FF02000000000000";
-
+public final class Promises extends Checks {
     // ---- promises 1 to 6
 
     private static void newObject() {
-        part = "1 new";
-        SixNet x = new SixNet();
+        says("1 new");
+        Net x = new Net();
         due("status()", x.status(), 0);
         due("frames()", x.frames(), 0);
         for (int what = 0; what < 7; what++) {
@@ -129,14 +14,14 @@ public final class Promises {
         refused(x, "face(0, 0)", x.face(0, 0), 1);
         refused(x, "raise(0, false)", x.raise(0, false), 1);
         due("BAD", SixNet.BAD, -1);
-        SixNet y = new SixNet();
+        Net y = new Net();
         y.node(true);
         due("another object's world", x.world(1), 0);
     }
 
     private static void nodes() {
-        part = "2 node";
-        SixNet x = new SixNet();
+        says("2 node");
+        Net x = new Net();
         for (int i = 0; i < 12; i++) {
             taken(x, "node", x.node(i % 2 == 0), i);
         }
@@ -147,8 +32,8 @@ public final class Promises {
     }
 
     private static void links() {
-        part = "3 link";
-        SixNet x = new SixNet();
+        says("3 link");
+        Net x = new Net();
         taken(x, "least", x.link(0x2000000000000000L, 1280), 0);
         taken(x, "greatest", x.link(0x3FFFFFFFFFFFFFFFL, 1500), 1);
         refused(x, "too low", x.link(0x1FFFFFFFFFFFFFFFL, 1500), 4);
@@ -167,8 +52,8 @@ public final class Promises {
     }
 
     private static void attachments() {
-        part = "4 attach";
-        SixNet x = new SixNet();
+        says("4 attach");
+        Net x = new Net();
         x.node(true);
         x.node(false);
         x.link(P, 1500);
@@ -200,7 +85,7 @@ public final class Promises {
     }
 
     private static void attachOnCut() {
-        SixNet x = new SixNet();
+        Net x = new Net();
         x.node(true);
         x.link(P, 1500);
         taken(x, "cut", x.raise(0, false), 0);
@@ -220,7 +105,7 @@ public final class Promises {
     }
 
     private static void attachMany() {
-        SixNet x = new SixNet();
+        Net x = new Net();
         for (int i = 0; i < 3; i++) {
             x.node(true);
         }
@@ -231,7 +116,7 @@ public final class Promises {
             taken(x, "many", x.attach(i / 10, i % 10, MAC + 1 + i, i), i);
         }
         refused(x, "a 25th", x.attach(2, 9, MAC + 1, 1), 5);
-        SixNet y = new SixNet();
+        Net y = new Net();
         y.node(true);
         y.link(P, 1500);
         y.link(Q, 1500);
@@ -246,8 +131,8 @@ public final class Promises {
     }
 
     private static void ownPrefixes() {
-        part = "5 own";
-        SixNet x = new SixNet();
+        says("5 own");
+        Net x = new Net();
         x.node(true);
         x.node(false);
         refused(x, "no node", x.own(2, P, 64), 1);
@@ -272,8 +157,8 @@ public final class Promises {
     }
 
     private static void messages() {
-        part = "6 message";
-        SixNet x = new SixNet();
+        says("6 message");
+        Net x = new Net();
         x.node(false);
         x.node(false);
         x.node(true);
@@ -298,8 +183,8 @@ public final class Promises {
     // ---- promises 7 to 13
 
     private static void echoes() {
-        part = "7 echo";
-        SixNet x = settledLan(1500);
+        says("7 echo");
+        Net x = settledLan(1500);
         refused(x, "no node", x.echo(3, P, 1, 0), 1);
         refused(x, "size", x.echo(0, P, 1, -1), 4);
         refused(x, "size", x.echo(0, P, 1, 3001), 4);
@@ -327,7 +212,7 @@ public final class Promises {
         x.hurry(1);
         due("replies", x.count(0, 1), 3);
         due("echoes", x.count(0, 0), 3);
-        SixNet y = lan(1500);
+        Net y = lan(1500);
         taken(y, "no address yet", y.echo(0, P, 1, 0), 0);
         due("lost", y.world(5), 1);
         taken(y, "a router without a way", y.echo(1, 0x3000000000000000L, 1, 0), 0);
@@ -336,8 +221,8 @@ public final class Promises {
     }
 
     private static void ticks() {
-        part = "8 tick";
-        SixNet x = lan(1500);
+        says("8 tick");
+        Net x = lan(1500);
         refused(x, "0", x.tick(0), 4);
         refused(x, "41", x.tick(41), 4);
         refused(x, "-1", x.tick(-1), 4);
@@ -352,7 +237,7 @@ public final class Promises {
         taken(x, "40", x.tick(40), 41);
         due("frames of 33 .. 41", x.frames(), 2);
         due("sent so far", x.world(4), 5 + 7);
-        SixNet y = lan(1500);
+        Net y = lan(1500);
         y.tick(1);
         y.tick(8);
         due("8 ticks ago", y.frames(), 3);
@@ -361,8 +246,8 @@ public final class Promises {
     }
 
     private static void deliveries() {
-        part = "9 deliver";
-        SixNet x = lan(1500);
+        says("9 deliver");
+        Net x = lan(1500);
         x.tick(1);
         refused(x, "-1", x.deliver(-1), 2);
         refused(x, "2", x.deliver(2), 2);
@@ -374,7 +259,7 @@ public final class Promises {
         due("trying", x.face(0, 2), 1);
         due("asks from nobody", plain(x, 0, 56), header(0x3333FF000011L, MAC + 1, 24, 58, 255) + ZERO8 + ZERO8 + MANY
             + "00000001FF000011" + "8700....00000000" + address(P, 0x11));
-        part = "10 drop";
+        says("10 drop");
         refused(x, "-1", x.drop(-1), 2);
         refused(x, "2", x.drop(2), 2);
         taken(x, "first", x.drop(0), 1);
@@ -385,8 +270,8 @@ public final class Promises {
     }
 
     private static void copies() {
-        part = "11 twice";
-        SixNet x = lan(1500);
+        says("11 twice");
+        Net x = lan(1500);
         x.tick(1);
         refused(x, "-1", x.twice(-1), 2);
         refused(x, "2", x.twice(2), 2);
@@ -417,8 +302,8 @@ public final class Promises {
     }
 
     private static void hurries() {
-        part = "12 hurry";
-        SixNet x = lan(1500);
+        says("12 hurry");
+        Net x = lan(1500);
         refused(x, "0", x.hurry(0), 4);
         refused(x, "201", x.hurry(201), 4);
         taken(x, "none", x.hurry(200), 0);
@@ -430,8 +315,8 @@ public final class Promises {
     }
 
     private static void raises() {
-        part = "13 raise";
-        SixNet x = new SixNet();
+        says("13 raise");
+        Net x = new Net();
         x.node(true);
         x.node(true);
         x.node(false);
@@ -467,14 +352,14 @@ public final class Promises {
     // ---- promises 14 to 22
 
     private static void frameQueries() {
-        part = "14 frames";
-        SixNet x = lan(1500);
+        says("14 frames");
+        Net x = lan(1500);
         x.frame(0, 0);
         due("frames", x.frames(), 0);
         due("STATUS stays", x.status(), 2);
         x.tick(1);
         due("frames", x.frames(), 2);
-        part = "15 frame";
+        says("15 frame");
         refused(x, "-1", x.frame(-1, 0), 2);
         refused(x, "2 before 4", x.frame(2, 9), 2);
         refused(x, "what", x.frame(0, 4), 4);
@@ -484,7 +369,7 @@ public final class Promises {
         taken(x, "tick", x.frame(0, 2), 1);
         taken(x, "bytes", x.frame(0, 3), 118);
         taken(x, "bytes", x.frame(1, 3), 86);
-        part = "16 bytes";
+        says("16 bytes");
         refused(x, "no frame", x.bytes(2, 0), 2);
         refused(x, "no frame", x.bytes(-1, 0), 2);
         refused(x, "no byte", x.bytes(0, -1), 2);
@@ -496,8 +381,8 @@ public final class Promises {
     }
 
     private static void faceQueries() {
-        part = "17 face";
-        SixNet x = lan(1500);
+        says("17 face");
+        Net x = lan(1500);
         refused(x, "-1", x.face(-1, 0), 1);
         refused(x, "1 before 4", x.face(3, 9), 1);
         refused(x, "what", x.face(0, 5), 4);
@@ -517,7 +402,7 @@ public final class Promises {
         x.echo(2, P, 0x77, 2);
         taken(x, "waiting", x.face(2, 4), 2);
         taken(x, "entries", x.face(2, 3), 2);
-        part = "18 id";
+        says("18 id");
         refused(x, "-1", x.id(-1, 0), 1);
         refused(x, "1 before 4", x.id(3, 9), 1);
         refused(x, "what", x.id(0, 3), 4);
@@ -527,15 +412,9 @@ public final class Promises {
         taken(x, "mac", x.id(2, 2), MAC + 3);
     }
 
-    private static void dueEntry(SixNet x, int i, int j, long... want) {
-        for (int what = 0; what < want.length; what++) {
-            taken(x, "entry " + i + " " + j + " " + what, x.entry(i, j, what), want[what]);
-        }
-    }
-
     private static void entryQueries() {
-        part = "19 entry";
-        SixNet x = settledLan(1500);
+        says("19 entry");
+        Net x = settledLan(1500);
         refused(x, "-1", x.entry(-1, 0, 0), 1);
         refused(x, "1 first", x.entry(3, 9, 9), 1);
         refused(x, "no entry", x.entry(0, 1, 9), 2);
@@ -568,7 +447,7 @@ public final class Promises {
     }
 
     private static void entriesEnd() {
-        SixNet x = settledLan(1500);
+        Net x = settledLan(1500);
         for (int i = 0; i < 4; i++) {
             x.echo(0, P, 0x99, i);
         }
@@ -581,7 +460,7 @@ public final class Promises {
         due("gone", x.face(0, 3), 1);
         due("told of all", x.count(0, 2), 3);
         due("none waits", x.world(6), 0);
-        SixNet y = settledLan(1500);
+        Net y = settledLan(1500);
         due("router known", y.count(0, 7), 1);
         y.echo(0, Q, 1, 0);
         dueEntry(y, 0, 0, LOCAL, EUI + 2, MAC + 2, 3, 8, 0);
@@ -596,7 +475,7 @@ public final class Promises {
     }
 
     private static void entriesAreFull() {
-        SixNet x = settledLan(1500);
+        Net x = settledLan(1500);
         for (int i = 0; i < 31; i++) {
             x.echo(0, P, 0x100 + i, 0);
         }
@@ -618,13 +497,13 @@ public final class Promises {
     }
 
     private static void routeQueries() {
-        part = "20 routes";
-        SixNet x = lan(1500);
+        says("20 routes");
+        Net x = lan(1500);
         refused(x, "no node", x.routes(3), 1);
         refused(x, "no node", x.routes(-1), 1);
         refused(x, "a host", x.routes(0), 3);
         taken(x, "one", x.routes(1), 1);
-        part = "21 route";
+        says("21 route");
         refused(x, "no node", x.route(3, 9, 9), 1);
         refused(x, "a host", x.route(0, 9, 9), 3);
         refused(x, "no route", x.route(1, 1, 9), 2);
@@ -635,7 +514,7 @@ public final class Promises {
         for (int what = 0; what < 6; what++) {
             taken(x, "route " + what, x.route(1, 0, what), want[what]);
         }
-        part = "22 way";
+        says("22 way");
         refused(x, "no node", x.way(3, P), 1);
         refused(x, "a host", x.way(0, P), 3);
         taken(x, "link", x.way(1, P), 0);
@@ -650,8 +529,8 @@ public final class Promises {
 
     /** ROUTERS 0 and 1 on one LINK; ROUTER 1 has another behind it. */
     private static void routesTravel() {
-        part = "5 ROUTES";
-        SixNet x = new SixNet();
+        says("5 ROUTES");
+        Net x = new Net();
         x.node(true);
         x.node(true);
         x.link(P, 1500);
@@ -683,8 +562,8 @@ public final class Promises {
     }
 
     private static void loop() {
-        part = "4 OUT OF TIME";
-        SixNet x = new SixNet();
+        says("4 OUT OF TIME");
+        Net x = new Net();
         x.node(true);
         x.node(true);
         x.link(P, 1500);
@@ -712,8 +591,8 @@ public final class Promises {
     // ---- promises 23 to 29
 
     private static void talks() {
-        part = "7 MESSAGES";
-        SixNet x = settledLan(1500);
+        says("7 MESSAGES");
+        Net x = settledLan(1500);
         taken(x, "none", x.sent(0, 2, 2), 0);
         x.message(0, 2, 3, 5);
         x.message(0, 2, 1453, 0);
@@ -757,8 +636,8 @@ public final class Promises {
         pauses();
     }
 
-    private static void talkQueries(SixNet x) {
-        part = "23 heard";
+    private static void talkQueries(Net x) {
+        says("23 heard");
         refused(x, "no node", x.heard(0, 3), 1);
         refused(x, "no node", x.heard(-1, 0), 1);
         refused(x, "a router", x.heard(0, 1), 3);
@@ -766,7 +645,7 @@ public final class Promises {
         taken(x, "two", x.heard(0, 2), 2);
         taken(x, "none back", x.heard(2, 0), 0);
         taken(x, "none of itself", x.heard(0, 0), 0);
-        part = "24 got";
+        says("24 got");
         refused(x, "no node", x.got(0, 3, 9, 9), 1);
         refused(x, "a router", x.got(0, 1, 9, 9), 3);
         refused(x, "no message", x.got(0, 2, 2, 9), 2);
@@ -782,7 +661,7 @@ public final class Promises {
             d = d * 31 + 31 * k % 256;
         }
         taken(x, "digest", x.got(0, 2, 1, 1), d);
-        part = "25 sent";
+        says("25 sent");
         refused(x, "no node", x.sent(0, 3, 9), 1);
         refused(x, "a router", x.sent(1, 0, 9), 3);
         refused(x, "what", x.sent(0, 2, 4), 4);
@@ -792,8 +671,8 @@ public final class Promises {
     }
 
     private static void pauses() {
-        part = "25 sent";
-        SixNet x = new SixNet();
+        says("25 sent");
+        Net x = new Net();
         x.node(false);
         x.node(false);
         x.message(0, 1, 0, 0);
@@ -806,7 +685,7 @@ public final class Promises {
             x.tick(dueAt[i] - x.world(0));
         }
         due("due", x.sent(0, 1, 2), 125);
-        SixNet y = settledLan(1500);
+        Net y = settledLan(1500);
         y.message(0, 2, 1, 1);
         y.tick(1);
         y.hurry(2);
@@ -820,8 +699,8 @@ public final class Promises {
     }
 
     private static void tooBig() {
-        part = "26 mtu";
-        SixNet x = twoLinks(1500, 1280);
+        says("26 mtu");
+        Net x = twoLinks(1500, 1280);
         refused(x, "no node", x.mtu(3, P, 1), 1);
         refused(x, "no node", x.mtu(-1, P, 1), 1);
         taken(x, "none", x.mtu(0, Q, 0x22), 0);
@@ -854,8 +733,8 @@ public final class Promises {
     }
 
     private static void unreachable() {
-        part = "27 count";
-        SixNet x = twoLinks(1500, 1500);
+        says("27 count");
+        Net x = twoLinks(1500, 1500);
         x.echo(0, R, 1, 2);
         String about = hex(x, 0).substring(28);
         x.hurry(3);
@@ -878,7 +757,7 @@ public final class Promises {
     }
 
     private static void partsOutOfTime() {
-        SixNet x = settledLan(1280);
+        Net x = settledLan(1280);
         x.echo(0, P, 0x22, 1300);
         x.hurry(2);
         due("parts", x.frames(), 2);
@@ -915,8 +794,8 @@ public final class Promises {
     }
 
     private static void counts() {
-        part = "27 count";
-        SixNet x = settledLan(1500);
+        says("27 count");
+        Net x = settledLan(1500);
         refused(x, "no node", x.count(3, 9), 1);
         refused(x, "no node", x.count(-1, 0), 1);
         refused(x, "what", x.count(0, 9), 4);
@@ -937,7 +816,7 @@ public final class Promises {
     }
 
     private static void fiveRouters() {
-        SixNet x = new SixNet();
+        Net x = new Net();
         x.link(P, 1500);
         for (int i = 0; i < 5; i++) {
             x.node(true);
@@ -954,8 +833,8 @@ public final class Promises {
     }
 
     private static void worlds() {
-        part = "28 world";
-        SixNet x = settledLan(1500);
+        says("28 world");
+        Net x = settledLan(1500);
         refused(x, "7", x.world(7), 4);
         refused(x, "-1", x.world(-1), 4);
         int[] want = {3, 3, 1, 3, 4, 0, 0};
@@ -967,7 +846,7 @@ public final class Promises {
         due("no frame on what is cut", x.world(4), 4);
         due("nor is it lost", x.world(5), 0);
         due("it waits", x.world(6), 1);
-        part = "29 status";
+        says("29 status");
         due("0", x.status(), 0);
         x.tick(0);
         due("4", x.status(), 4);
@@ -979,8 +858,8 @@ public final class Promises {
     }
 
     private static void doubles() {
-        part = "3 DOUBLE";
-        SixNet x = new SixNet();
+        says("3 DOUBLE");
+        Net x = new Net();
         x.node(false);
         x.node(true);
         x.node(false);
@@ -996,7 +875,7 @@ public final class Promises {
         due("hears the other", x.face(0, 2), 3);
         x.tick(2);
         due("for ever", x.face(0, 2), 3);
-        SixNet y = new SixNet();
+        Net y = new Net();
         y.node(false);
         y.node(true);
         y.link(P, 1500);
@@ -1013,8 +892,8 @@ public final class Promises {
 
     /** The HOST's packet goes round between two ROUTERS till its HOPS are used up. */
     private static void outOfTimeFrame() {
-        part = "4 OUT OF TIME";
-        SixNet x = new SixNet();
+        says("4 OUT OF TIME");
+        Net x = new Net();
         x.node(true);
         x.node(true);
         x.node(false);
@@ -1048,8 +927,8 @@ public final class Promises {
     }
 
     private static void raiseWithoutRoom() {
-        part = "13 raise";
-        SixNet x = new SixNet();
+        says("13 raise");
+        Net x = new Net();
         x.node(true);
         x.link(P, 1500);
         x.attach(0, 0, MAC + 1, 1);
@@ -1064,33 +943,24 @@ public final class Promises {
         taken(x, "no route", x.raise(0, false), 0);
     }
 
-    private static int frameOfType(SixNet x, int type) {
-        for (int k = 0; k < x.frames(); k++) {
-            if (x.bytes(k, 20) >>> 56 == 58 && x.bytes(k, 54) >>> 56 == type) {
-                return k;
-            }
-        }
-        return -1;
-    }
-
     private static void waitingIsReleased() {
-        part = "3 NOTED";
-        SixNet x = settledLan(1500);
+        says("3 NOTED");
+        Net x = settledLan(1500);
         x.echo(0, Q, 1, 0);
         x.tick(8);
         due("entry gone", x.face(0, 3), 0);
         x.echo(0, LOCAL, EUI + 2, 0);
         dueEntry(x, 0, 0, LOCAL, EUI + 2, 0, 0, 12, 1);
-        x.deliver(frameOfType(x, 134));
+        x.deliver(find(x, 134));
         dueEntry(x, 0, 0, LOCAL, EUI + 2, MAC + 2, 3, 16, 0);
         due("none waits", x.face(0, 4), 0);
-        due("it flies", frameOfType(x, 128) >= 0 ? 1 : 0, 1);
+        due("it flies", find(x, 128) >= 0 ? 1 : 0, 1);
     }
 
     /** A TELL that nobody asked for comes while a PACKET waits for that ADDRESS. */
     private static void tellUnasked() {
-        part = "3 TELL";
-        SixNet x = lan(1500);
+        says("3 TELL");
+        Net x = lan(1500);
         x.node(false);
         x.tick(1);
         x.hurry(9);
@@ -1101,7 +971,7 @@ public final class Promises {
         x.echo(0, P, 0x22, 0);
         dueEntry(x, 0, 1, P, 0x22, 0, 0, 12, 1);
         for (int k = x.frames() - 1; k >= 0; k--) {
-            if (k != frameOfType(x, 134)) {
+            if (k != find(x, 134)) {
                 x.drop(k);
             }
         }
@@ -1113,12 +983,12 @@ public final class Promises {
         x.deliver(0);
         due("double", x.face(3, 2), 3);
         dueEntry(x, 0, 1, P, 0x22, MAC + 3, 3, 16, 0);
-        due("what waited flies", frameOfType(x, 128), 0);
+        due("what waited flies", find(x, 128), 0);
     }
 
     private static void partsInTurn() {
-        part = "6 FRAGMENTS";
-        SixNet x = settledLan(1280);
+        says("6 FRAGMENTS");
+        Net x = settledLan(1280);
         x.echo(0, P, 0x22, 0);
         x.hurry(9);
         x.echo(0, P, 0x22, 1300);
@@ -1153,8 +1023,8 @@ public final class Promises {
     }
 
     private static void oldAnswer() {
-        part = "7 ANSWER";
-        SixNet x = settledLan(1500);
+        says("7 ANSWER");
+        Net x = settledLan(1500);
         x.message(0, 2, 1, 1);
         x.message(0, 2, 2, 2);
         x.message(2, 0, 3, 3);
@@ -1183,8 +1053,8 @@ public final class Promises {
     }
 
     private static void manyMtus() {
-        part = "26 mtu";
-        SixNet x = twoLinks(1500, 1280);
+        says("26 mtu");
+        Net x = twoLinks(1500, 1280);
         for (int i = 0; i < 14; i++) {
             x.echo(0, Q, 0x100 + i, 1300);
             x.hurry(50);
@@ -1203,7 +1073,7 @@ public final class Promises {
         due("of tick 16", x.mtu(0, Q, 0x10D), 1280);
         x.tick(11);
         due("of tick 16", x.mtu(0, Q, 0x10D), 0);
-        SixNet y = twoLinks(1500, 1280);
+        Net y = twoLinks(1500, 1280);
         y.echo(0, Q, 0x100, 1300);
         y.echo(0, Q, 0x100, 1300);
         y.hurry(4);
@@ -1218,7 +1088,7 @@ public final class Promises {
         due("as long as the first said", y.mtu(0, Q, 0x100), 1280);
         y.tick(1);
         due("and no longer", y.mtu(0, Q, 0x100), 0);
-        SixNet z = twoLinks(1500, 1280);
+        Net z = twoLinks(1500, 1280);
         for (int i = 0; i < 12; i++) {
             z.echo(0, Q, 0x100 + i, 1300);
             z.hurry(50);
@@ -1260,9 +1130,6 @@ public final class Promises {
         partsInTurn();
         oldAnswer();
         manyMtus();
-        System.out.println(wrong == 0 ? "all answers are as due" : wrong + " answers are not as due");
-        if (wrong != 0) {
-            System.exit(1);
-        }
+        end();
     }
 }
