@@ -889,9 +889,8 @@ public final class SixNet {
         sendWaiting(f, note(f, askerHigh, askerLow, came.get(66, 6)));
         writeTell(f, 96, high, low, askerHigh, askerLow);
         hop.set(f, askerHigh, askerLow);
-        if (handOver(draft)) {
-            ask(f, askerHigh, askerLow, 0, false);
-        }
+        // Who asked was NOTED, or there is no room for an ENTRY: either way no ASK is needed.
+        handOver(draft);
     }
 
     private void hearTell(Face f) {

@@ -361,6 +361,52 @@ public final class EdgeFrames extends Checks {
         due("MESSAGE to 3", x.bytes(3, 54) >>> 48, 0x0123);
     }
 
+    private static void assignedAheadOfMessages() {
+        says("then a HOST: TRYING, its ROUTERS and ON LINK (gone at UNTIL), MESSAGES");
+        Net x = lan(1500);
+        x.tick(1);
+        x.hurry(9);
+        x.tick(1);
+        x.message(0, 2, 0, 0);
+        due("TRYING", x.face(0, 2), 1);
+        x.tick(1);
+        due("ASSIGNED ahead of the MESSAGE", x.world(5), 0);
+        due("so it is asked for", countOf(x, ASK), 1);
+    }
+
+    private static void goneAheadOfMessages() {
+        says("then a HOST: TRYING, its ROUTERS and ON LINK (gone at UNTIL), MESSAGES");
+        Net x = settledLan(1500);
+        quietTicks(x, 39);
+        Net y = x.fork();
+        x.message(0, 2, 0, 0);
+        x.tick(1);
+        due("ON LINK at 40", x.world(5), 0);
+        quietTicks(y, 40);
+        y.message(0, 2, 0, 0);
+        y.tick(1);
+        due("gone at 41 ahead of the MESSAGE", y.world(5), 1);
+    }
+
+    /** The ROUTER's ENTRY ends at tick 11, in which a MESSAGE by it is due. */
+    private static void entriesAheadOfMessages() {
+        says("their ENTRIES in order; .. then a HOST: .. MESSAGES");
+        Net x = twoLinks(1500, 1500);
+        x.echo(0, Q, 0x22, 0);
+        dropAll(x);
+        quietTicks(x, 9);
+        Net y = x.fork();
+        x.message(0, 2, 0, 0);
+        x.tick(1);
+        due("the ROUTER is there at 10", x.world(5), 0);
+        due("the MESSAGE flies", countOf(x, MESSAGES), 1);
+        quietTicks(y, 10);
+        y.message(0, 2, 0, 0);
+        y.tick(1);
+        due("the ROUTER went", y.count(0, 7), 0);
+        due("ahead of the MESSAGE", y.world(5), 1);
+    }
+
     private static void keepFrom(Net x, int face) {
         for (int k = x.frames() - 1; k >= 0; k--) {
             if (x.frame(k, 1) != face) {
@@ -415,6 +461,9 @@ public final class EdgeFrames extends Checks {
         hostsSayNothing();
         orderInTick();
         orderInHost();
+        assignedAheadOfMessages();
+        goneAheadOfMessages();
+        entriesAheadOfMessages();
         facesByNumbers();
         end();
     }

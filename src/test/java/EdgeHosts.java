@@ -43,6 +43,9 @@ public final class EdgeHosts extends Checks {
         due("NOW + 39", x.count(5, 7), 4);
         quietTicks(x, 50);
         due("the first goes at NOW + 40", x.count(5, 7), 3);
+        Net y = x.fork();
+        y.echo(5, Q, 1, 0);
+        due("the second is the first now", y.bytes(0, 0) >>> 16, MAC + 2);
         quietTicks(x, 51);
         due("the second", x.count(5, 7), 2);
         quietTicks(x, 53);

@@ -205,6 +205,7 @@ public final class EdgeNeighbours extends Checks {
         due("frames", x.frames(), 3);
         for (int k = 0; k < 3; k++) {
             due("UNREACHABLE 3", x.bytes(k, 54) >>> 48, 0x0103);
+            due("4 bytes 0", x.bytes(k, 58) >>> 32, 0);
             due("to HOST 0", x.bytes(k, 46), 0x11);
             due("about a longer one each time", x.frame(k, 3), 62 + 40 + 8 + 1 + k);
         }
@@ -232,6 +233,62 @@ public final class EdgeNeighbours extends Checks {
         x.tick(1);
         due("and these", x.face(2, 3) + x.face(1, 3), 0);
         due("told of all", x.count(1, 2), 5);
+    }
+
+    /** Three waited at the first ENTRY, one at the second: one is told of four. */
+    private static void fewerBehindMore() {
+        says("for each PACKET that waited, in order, UNREACHABLE 3 comes from this NODE");
+        Net x = settledLan(1500);
+        for (int i = 0; i < 3; i++) {
+            x.echo(0, P, 0x98, i);
+        }
+        x.echo(0, P, 0x99, 0);
+        quietTicks(x, 6);
+        due("told of four", x.count(0, 2), 4);
+        x.echo(0, P, 0x97, 0);
+        quietTicks(x, 9);
+        due("and of one", x.count(0, 2), 5);
+    }
+
+    /** Nothing waits at ENTRIES that are ASKED; the one behind is looked at in the same tick. */
+    private static void twoAskedEnd() {
+        says("ASKED with 3: the ENTRY goes");
+        Net x = settledLan(1500);
+        x.echo(0, Q, 1, 0);
+        dropAll(x);
+        x.echo(2, P, 0x11, 0);
+        x.deliver(0);
+        dropAll(x);
+        dueEntry(x, 0, 0, LOCAL, EUI + 2, MAC + 2, WAITING, 8, 0);
+        dueEntry(x, 0, 1, P, 0x22, MAC + 3, WAITING, 8, 0);
+        quietTicks(x, 10);
+        dueEntry(x, 0, 0, LOCAL, EUI + 2, MAC + 2, ASKED, 11, 3);
+        dueEntry(x, 0, 1, P, 0x22, MAC + 3, ASKED, 11, 3);
+        x.tick(1);
+        due("both went", x.face(0, 3), 0);
+    }
+
+    private static void madeBehindGone() {
+        says("ENTRIES, in the order in which they were made");
+        Net x = settledLan(1500);
+        x.echo(0, P, 0x91, 0);
+        x.tick(1);
+        x.echo(0, P, 0x92, 0);
+        x.echo(0, P, 0x93, 0);
+        quietTicks(x, 6);
+        due("the second of four went", x.face(0, 3), 3);
+        x.echo(0, P, 0x94, 0);
+        long[] lows = {EUI + 2, 0x92, 0x93, 0x94};
+        long[] tries = {0, 3, 3, 1};
+        for (int j = 0; j < 4; j++) {
+            due("LOW of ENTRY " + j, x.entry(0, j, 1), lows[j]);
+            due("TRIES of ENTRY " + j, x.entry(0, j, 5), tries[j]);
+        }
+        due("waiting", x.face(0, 4), 3);
+        quietTicks(x, 7);
+        due("those two went", x.face(0, 3), 2);
+        dueEntry(x, 0, 1, P, 0x94, 0, OPEN, 8, 2);
+        due("waiting", x.face(0, 4), 1);
     }
 
     /** The UNREACHABLE needs a new ENTRY in the same tick; that is not looked at before the next one. */
@@ -447,6 +504,13 @@ public final class EdgeNeighbours extends Checks {
         quietTicks(x, 22);
         due("ENTRIES", x.face(3, 3), 2);
         due("ROUTERS known", x.count(3, 7), 2);
+        Net y = x.fork();
+        quietTicks(y, 50);
+        due("the others stay as long as they said", y.count(3, 7), 2);
+        quietTicks(y, 51);
+        due("the second", y.count(3, 7), 1);
+        quietTicks(y, 52);
+        due("the third", y.count(3, 7), 0);
         x.echo(3, Q, 1, 0);
         due("by the next", x.bytes(0, 0) >>> 16, MAC + 2);
         due("the others stay ON LINK", x.count(3, 8), 1);
@@ -783,6 +847,9 @@ public final class EdgeNeighbours extends Checks {
         openTries();
         unreachableInOrder();
         manyEndAtOnce();
+        fewerBehindMore();
+        twoAskedEnd();
+        madeBehindGone();
         madeWithinTick();
         openOnCut();
         goodEnds();

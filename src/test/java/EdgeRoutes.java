@@ -18,6 +18,23 @@ public final class EdgeRoutes extends Checks {
         }
     }
 
+    private static void madeBehindGone() {
+        says("ordered by PREFIXES as numbers without signs, then LENGTHS");
+        Net x = routers(1);
+        x.link(Q, 1500);
+        x.attach(0, 1, MAC + 9, 1);
+        x.own(0, S, 64);
+        x.raise(1, false);
+        quietTicks(x, 12);
+        due("the second of three went", x.routes(0), 2);
+        taken(x, "own", x.own(0, S + 1, 64), 3);
+        taken(x, "own", x.own(0, R, 64), 4);
+        long[] prefixes = {P, R, S, S + 1};
+        for (int j = 0; j < 4; j++) {
+            dueRoute(x, 0, j, prefixes[j], 64, 1, -1, 0, 0);
+        }
+    }
+
     /** ROUTERS 0 and 1 on LINK P, with so many OWN PREFIXES each: those of 0 begin with 20, of 1 with 30. */
     private static Net owners(int first, int second) {
         Net x = routers(2);
@@ -562,6 +579,7 @@ public final class EdgeRoutes extends Checks {
 
     public static void main(String[] args) {
         ordered();
+        madeBehindGone();
         fiftySeventh();
         roomAgain();
         datagramOfAll();

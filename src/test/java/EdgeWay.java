@@ -80,6 +80,29 @@ public final class EdgeWay extends Checks {
         due("the other one", x.mtu(0, Q, 0x23), 0);
     }
 
+    /** What is behind the one that goes keeps its ADDRESS and its MTU. */
+    private static void firstOfTwoEnds() {
+        says("at UNTIL it goes");
+        Net x = narrowing(1500, 1400, 1300);
+        x.echo(0, Q, 0x33, 1452);
+        x.hurry(9);
+        due("1400", x.mtu(0, Q, 0x33), 1400);
+        x.tick(1);
+        dropAll(x);
+        x.echo(0, R, 0x33, 1452);
+        x.hurry(9);
+        x.echo(0, R, 0x33, 1352);
+        x.hurry(9);
+        due("1300", x.mtu(0, R, 0x33), 1300);
+        quietTicks(x, 63);
+        due("both", x.mtu(0, Q, 0x33) + x.mtu(0, R, 0x33), 2700);
+        quietTicks(x, 64);
+        due("the first went", x.mtu(0, Q, 0x33), 0);
+        due("the second is as it was", x.mtu(0, R, 0x33), 1300);
+        quietTicks(x, 65);
+        due("the second went", x.mtu(0, R, 0x33), 0);
+    }
+
     private static void belowGreatest() {
         says("without one for this ADDRESS it is made, if n is below 1500");
         Net x = twoLinks(1500, 1499);
@@ -228,6 +251,20 @@ public final class EdgeWay extends Checks {
         dueFragment(y, 0, 1248, 0, 1, 1);
     }
 
+    private static void cutForUnknown() {
+        says("without an ENTRY one is made, OPEN; the PACKET waits there, ASK goes out TO MANY (the GROUP)");
+        Net x = settledLan(1280);
+        x.echo(0, P, 0x22, 3000);
+        due("one ASK for all parts", x.frames(), 1);
+        due("as for any", plain(x, 0, 56), header(0x3333FF000022L, MAC + 1, 32, 58, 255) + address(P, 0x11) + MANY
+            + "00000001FF000022" + "8700....00000000" + address(P, 0x22) + "0101" + of(MAC + 1, 6));
+        due("three wait", x.face(0, 4), 3);
+        x.hurry(2);
+        dueFragment(x, 0, 1232, 0, 1, 1);
+        dueFragment(x, 1, 1232, 1232, 1, 1);
+        dueFragment(x, 2, 544, 2464, 0, 1);
+    }
+
     private static void numbersOfEach() {
         says("FRAGMENTS with a number (per NODE 1, 2, ..)");
         Net x = settledLan(1280);
@@ -357,6 +394,24 @@ public final class EdgeWay extends Checks {
         due("room again", x.count(2, 6), 4);
         due("LOST", x.world(5), 2);
         due("another NODE has its own", x.count(1, 6), 0);
+    }
+
+    private static void begunBehindWhole() {
+        says("4 at a time; When all are there they are the PACKET, whole");
+        Net x = firstParts(3);
+        x.deliver(0);
+        due("the first is whole", x.count(2, 6), 2);
+        x.drop(x.frames() - 1);
+        x.drop(x.frames() - 1);
+        due("two parts fly", x.frames(), 2);
+        x.echo(0, P, 0x22, 1300);
+        x.deliver(2);
+        due("a fourth is begun", x.count(2, 6), 3);
+        for (int left = 2; left >= 0; left--) {
+            x.deliver(0);
+            due("whole", x.count(2, 6), left);
+        }
+        due("each with a REPLY of two parts", x.frames(), 6);
     }
 
     private static void tenTicks() {
@@ -513,17 +568,20 @@ public final class EdgeWay extends Checks {
         thirteenth();
         leastUntilIsLast();
         mtuEnds();
+        firstOfTwoEnds();
         belowGreatest();
         lessOnly();
         equalIsNothing();
         sizes();
         knownMtu();
         linkIsLess();
+        cutForUnknown();
         numbersOfEach();
         anyOrder();
         sameTwice();
         byFromAndNumber();
         fifth();
+        begunBehindWhole();
         tenTicks();
         withoutFirst();
         placeUsedAgain();
