@@ -572,6 +572,10 @@ public final class EdgeCalls extends Checks {
             refuses(x, "what " + what, 4, y -> y.route(1, 0, what));
         }
         taken(x, "what 5", x.route(1, 0, 5), 0);
+        long[] highs = {0, -1L, Long.MIN_VALUE, Long.MAX_VALUE, P - 1, P + 1};
+        for (long high : highs) {
+            taken(x, "no way to " + Long.toHexString(high), x.way(1, high), -1);
+        }
         Net e = new Net();
         e.node(true);
         taken(e, "a ROUTER without ROUTES", e.routes(0), 0);

@@ -29,8 +29,15 @@ public final class EdgeHosts extends Checks {
         due("NOW", x.world(0), 13);
         advertTick(x);
         due("a fifth is nothing", x.count(5, 7), 4);
+        Net y = x.fork();
+        y.echo(5, Q, 1, 0);
+        due("the first is used", y.bytes(0, 0) >>> 16, MAC + 1);
+        quietTicks(x, 52);
+        due("the fourth is there till 53", x.count(5, 7), 1);
         x.echo(5, Q, 1, 0);
-        due("the first is used", x.bytes(0, 0) >>> 16, MAC + 1);
+        due("and used", x.bytes(0, 0) >>> 16, MAC + 4);
+        quietTicks(x, 53);
+        due("nobody is there then", x.count(5, 7), 0);
     }
 
     private static void fifthComesLater() {

@@ -786,6 +786,26 @@ public final class EdgeNeighbours extends Checks {
         due("none waits", x.face(2, 4), 0);
     }
 
+    /** With 48 that wait, none waits at HOST 2's ENTRY for the ROUTER when its ADVERT comes. */
+    private static void notedWithoutWaiting() {
+        says("UNTIL (0 of an OLD one), TRIES (0 but of OPEN and ASKED)");
+        Net x = settledLan(1500);
+        x.echo(2, Q, 1, 0);
+        dropAll(x);
+        quietTicks(x, 10);
+        x.tick(1);
+        keepType(x, ADVERT);
+        due("HOST 2's ENTRY for the ROUTER went", x.face(2, 3), 0);
+        for (int i = 0; i < 48; i++) {
+            x.echo(0, P, 0x100 + i / 3, 0);
+        }
+        x.echo(2, LOCAL, EUI + 2, 0);
+        due("LOST", x.world(5), 1);
+        x.deliver(0);
+        dueEntry(x, 2, 0, LOCAL, EUI + 2, MAC + 2, OLD, 0, 0);
+        due("ENTRIES", x.face(2, 3), 1);
+    }
+
     private static void tellAnotherMac() {
         says("others: this MAC, GOOD if it was asked, else OLD if the MAC is another one");
         Net x = twins();
@@ -871,6 +891,7 @@ public final class EdgeNeighbours extends Checks {
         notedAnotherMac();
         notedGood();
         notedOpen();
+        notedWithoutWaiting();
         tellAnotherMac();
         tellForTrying();
         end();

@@ -38,6 +38,19 @@ public final class EdgeWay extends Checks {
         due("the third stays", x.mtu(0, Q, 0x102), 1280);
     }
 
+    private static void takesItsPlace() {
+        says("one more takes the place of that with the least UNTIL, the first of such");
+        Net x = narrow();
+        for (int i = 0; i < 12; i++) {
+            learn(x, 0x100 + i);
+        }
+        learn(x, 0x200);
+        due("all of one tick: the first went", x.mtu(0, Q, 0x100), 0);
+        learn(x, 0x201);
+        due("who took its place is the first now", x.mtu(0, Q, 0x200), 0);
+        due("the second stays", x.mtu(0, Q, 0x101), 1280);
+    }
+
     private static void leastUntilIsLast() {
         says("that with the least UNTIL");
         Net x = narrow();
@@ -566,6 +579,7 @@ public final class EdgeWay extends Checks {
 
     public static void main(String[] args) {
         thirteenth();
+        takesItsPlace();
         leastUntilIsLast();
         mtuEnds();
         firstOfTwoEnds();
